@@ -566,6 +566,9 @@ public final class OutlineEditor {
 
         /** The place of a heading; -1 if there is no such heading. */
         int placeOf(int h) {
+            if (!has(h)) {
+                return -1;
+            }
             for (int place = 0; place < count; place++) {
                 if (order[place] == h) {
                     return place;
@@ -586,6 +589,10 @@ public final class OutlineEditor {
         /** The kind at a place; outside of the list the one whose rule is that of level 1. */
         int kindAt(int place) {
             return place >= 0 && place < count ? kinds[order[place]] : NO_KIND;
+        }
+
+        int tagsAt(int place) {
+            return place >= 0 && place < count ? tags[order[place]] : 0;
         }
 
         int startAt(int place) {
@@ -687,7 +694,7 @@ public final class OutlineEditor {
         }
 
         boolean matches(int place) {
-            return filter == 0 || (tags[order[place]] & filter) != 0;
+            return filter == 0 || (tagsAt(place) & filter) != 0;
         }
 
         boolean isShown(int place) {

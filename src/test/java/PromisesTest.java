@@ -56,6 +56,7 @@ public final class PromisesTest {
         codeOrder();
         errorsChangeNothing();
         extremeArguments();
+        fullList();
         System.out.println(wrong == 0 ? "all promises are kept" : wrong + " answers are not as due");
         if (wrong != 0) {
             System.exit(1);
@@ -256,6 +257,10 @@ public final class PromisesTest {
         due("remove(5, 0)", x.remove(5, 0), 1);
         due("told(0)", x.told(0), 0);
         due("told(5)", x.told(5), 0);
+        due("heading(5, 0)", x.heading(5, 0), BAD);
+        due("undo()", x.undo(), 7);
+        due("remove(5, 1)", x.remove(5, 1), 1);
+        due("promote(5)", x.promote(5), BAD);
 
         OutlineEditor y = outline(1, 2, 3, 1);
         y.refer(0, 3);
@@ -292,6 +297,14 @@ public final class PromisesTest {
         due("list", list(x), "2:1 3:2 4:1 5:1 6:1");
         due("remove(6, 1)", x.remove(6, 1), 1);
         due("list", list(x), "2:1 3:2 4:1 5:1");
+        due("told(7)", x.told(7), 8);
+        due("undo()", x.undo(), 7);
+        due("list", list(x), "2:1 3:2 4:1 5:1 6:1");
+        due("undo()", x.undo(), 6);
+        due("list", list(x), "0:1 2:2 3:3 4:2 5:2 6:1");
+        due("undo()", x.undo(), 5);
+        due("list", list(x), "0:1 1:2 2:3 3:4 4:3 5:2 6:1");
+        due("told(1)", x.told(1), 3);
     }
 
     private static void removeErrors() {
@@ -376,6 +389,8 @@ public final class PromisesTest {
         due("demote(3)", x.demote(3), 4);
         due("demote(3)", x.demote(3), STATE);
         due("list", list(x), "0:1 1:2 2:3 3:4");
+        due("undo()", x.undo(), 7);
+        due("list", list(x), "0:1 1:2 2:3 3:3");
     }
 
     private static void demoteErrors() {
@@ -533,6 +548,11 @@ public final class PromisesTest {
         x.setRule(2, 1 | 4);
         x.setKind(2, 3);
         due("setKind(0, 2), grandchildren are not looked at", x.setKind(0, 2), 1);
+
+        OutlineEditor y = outline(1, 2, 3, 2, 3);
+        y.setKind(4, 3);
+        y.setRule(1, 1);
+        due("setKind(1, 1), another one's child is not looked at", y.setKind(1, 1), 0);
     }
 
     // ---- promise 8
@@ -831,6 +851,12 @@ public final class PromisesTest {
         due("told(2)", x.told(2), 1);
         due("forget a broken one", x.forget(0), 0);
         due("told(2)", x.told(2), 0);
+        for (int k = 0; k < 12; k++) {
+            x.refer(0, 0);
+        }
+        due("forget(12)", x.forget(12), BAD);
+        due("forget(0) of 12", x.forget(0), 11);
+        due("forget(10) of 11", x.forget(10), 10);
     }
 
     // ---- promise 17
@@ -1027,6 +1053,10 @@ public final class PromisesTest {
         due("heading(5, 7)", x.heading(5, 7), NONE);
         due("heading(4, 7)", x.heading(4, 7), 0);
         due("heading(0, 8)", x.heading(0, 8), 2);
+        x.add(6, 2, 0);
+        due("heading(0, 8), not another one's child", x.heading(0, 8), 2);
+        due("heading(5, 8)", x.heading(5, 8), 1);
+        x.undo();
         due("heading(0, 9)", x.heading(0, 9), 5);
         due("heading(5, 9)", x.heading(5, 9), 1);
         due("heading(0, 13)", x.heading(0, 13), 1);
@@ -1357,5 +1387,46 @@ public final class PromisesTest {
             }
         }
         due("told(7)", x.told(7), 3);
+    }
+
+    /** Nothing is looked for behind the last of 30 headings. */
+    private static void fullList() {
+        OutlineEditor x = new OutlineEditor();
+        for (int i = 0; i < 30; i++) {
+            due("add", x.add(i, 1 + i % 6, 3), i);
+        }
+        due("setTags(30, 0)", x.setTags(30, 0), BAD);
+        due("fold(30, 0)", x.fold(30, 0), BAD);
+        due("setStart(30, 0)", x.setStart(30, 0), BAD);
+        due("refer(30, 0)", x.refer(30, 0), BAD);
+        due("refer(0, 30)", x.refer(0, 30), BAD);
+        due("heading(30, 0)", x.heading(30, 0), BAD);
+        due("promote(30)", x.promote(30), BAD);
+        due("headingAt(29)", x.headingAt(29), 29);
+        due("headingAt(30)", x.headingAt(30), NONE);
+        due("shownAt(30)", x.shownAt(30), NONE);
+        x.setFilter(16);
+        due("shownAt(0)", x.shownAt(0), NONE);
+        x.setTags(29, 16);
+        due("shown", shown(x), "24 25 26 27 28 29");
+        due("shownAt(6)", x.shownAt(6), NONE);
+        due("child(29, 0)", x.child(29, 0), NONE);
+        due("child(24, 0)", x.child(24, 0), 25);
+        due("heading(24, 9)", x.heading(24, 9), 6);
+        due("heading(28, 8)", x.heading(28, 8), 1);
+        due("setKind(29, 0)", x.setKind(29, 0), 3);
+        due("promote(29)", x.promote(29), 5);
+        due("demote(29)", x.demote(29), 6);
+        due("drag(24, 0, 0)", x.drag(24, 0, 0), 0);
+        due("drag(24, 18, 1)", x.drag(24, 18, 1), 24);
+        due("number of 29", number(x, 29), "5.1.1.1.1.1");
+        write(x, "5.1.1.1.1.1");
+        due("find(0)", x.find(0), 29);
+        due("find(1)", x.find(1), NONE);
+        due("told(5)", x.told(5), 6);
+        due("told(9)", x.told(9), 0);
+        due("remove(29, 1)", x.remove(29, 1), 1);
+        due("remove(0, 0)", x.remove(0, 0), 6);
+        due("told(0)", x.told(0), 23);
     }
 }

@@ -1027,6 +1027,10 @@ public final class PromisesTest {
         due("shown, the match is folded away", shown(x), "0");
         x.setFilter(31);
         due("shown", shown(x), "0 4");
+        x.setTags(0, 16);
+        x.setFilter(16);
+        due("shown, the first heading by its own tag", shown(x), "0");
+        due("told(4)", x.told(4), 1);
     }
 
     // ---- promise 22

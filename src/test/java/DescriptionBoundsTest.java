@@ -11,6 +11,10 @@ public final class DescriptionBoundsTest {
     private record Refusal(Bounds.Maker maker, String name, Bounds.Call call, int code) { }
 
     public static void main(String[] args) throws IOException {
+        Bounds.section("What it is");
+        Bounds.nothingToTest("An editor for outlines: headings in several levels, with numbers in several alphabets, and references "
+            + "that follow their headings", "what later calls answer is free");
+        Bounds.test("An object is used for at most 512 calls after it has been made", DescriptionBoundsTest::manyCalls);
         Bounds.section("Description");
         Bounds.nothingToTest(
             "The class adds, removes, promotes, demotes and drags headings together with what belongs to them, under rules about "
@@ -38,6 +42,39 @@ public final class DescriptionBoundsTest {
 
     private static void due(String what, String got, String want) {
         Bounds.due(what, got, want);
+    }
+
+    // ---- how long an object is used
+
+    /** With full lists too all 512 calls are answered as due, and changes as late as these can be undone. */
+    private static void manyCalls() {
+        OutlineEditor x = Bounds.full();
+        for (int k = 0; k < 12; k++) {
+            due("refer", x.refer(29, 0), k);
+        }
+        for (int i = 0; i < 40; i++) {
+            due("write", x.write('3'), i + 1);
+        }
+        int calls = 82;
+        for (; calls + 6 <= 507; calls += 6) {
+            due("remove(0, 1) after " + calls + " calls", x.remove(0, 1), 1);
+            due("add after it", x.add(29, 2, 3), 0);
+            due("drag after it", x.drag(0, 1, 0), 0);
+            due("undo() of it", x.undo(), 7);
+            due("undo() of add", x.undo(), 6);
+            due("undo() of remove", x.undo(), 5);
+            for (int i = 0; i < 3 && calls + 9 <= 507; i++, calls++) {
+                due("setFilter after " + calls + " calls", x.setFilter(0), 0);
+            }
+        }
+        for (; calls < 507; calls++) {
+            due("setFilter after " + calls + " calls", x.setFilter(0), 0);
+        }
+        due("call 508, remove", x.remove(29, 0), 1);
+        due("call 509, its references are gone", x.told(1), 0);
+        due("call 510, undo", x.undo(), 7);
+        due("call 511, its references are there again", x.told(1), 12);
+        due("call 512, a change", x.setKind(29, 3), 0);
     }
 
     // ---- conventions

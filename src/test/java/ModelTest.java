@@ -14,7 +14,8 @@ import java.util.stream.Collectors;
  */
 public final class ModelTest {
     private static final int BAD = -1, STATE = -2, FULL = -3, DENIED = -4, NONE = -9;
-    private static final int RUNS = 500;
+    private static final int RUNS = 1500;
+    /** What an object answers beyond these is free. */
     private static final int CALLS = 512;
 
     record Item(int id, int level, int kind, int tags, int folded, int start) {
@@ -624,8 +625,14 @@ public final class ModelTest {
     }
 
     private static int wrong = 0;
+    /** The calls that the object of this run has had. */
+    private static int calls = 0;
 
     static boolean same(int run, OutlineEditor x, Model y, int m, int a, int b, int c) {
+        if (calls >= CALLS) {
+            return true;
+        }
+        calls++;
         int got = onEditor(x, m, a, b, c);
         int want = onModel(y, m, a, b, c);
         if (got != want) {
@@ -679,11 +686,12 @@ public final class ModelTest {
             Model y = new Model();
             int flavour = run % 5;
             boolean same = true;
-            for (int i = 0; i < CALLS && same; i++) {
+            calls = 0;
+            while (calls < CALLS && same) {
                 int m = pickMethod(r, flavour);
                 int[] a = arguments(r, y, m);
                 same = same(run, x, y, m, a[0], a[1], a[2]);
-                if (r.nextInt(60) == 0) {
+                if (r.nextInt(150) == 0) {
                     same &= sameInAll(run, x, y);
                 }
                 if (r.nextInt(80) == 0) {

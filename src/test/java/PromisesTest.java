@@ -672,26 +672,27 @@ public final class PromisesTest {
     }
 
     private static void schemesInWords() {
-        OutlineEditor x = new OutlineEditor();
-        for (int i = 0; i < 30; i++) {
-            x.add(i, 1, 0);
-        }
         int[] values = {1, 2, 3, 4, 5, 6, 8, 9, 10, 11, 14, 19, 20, 26, 27, 28, 39, 40, 49, 50, 52, 53, 60};
         String[] letters = {"a", "b", "c", "d", "e", "f", "h", "i", "j", "k", "n", "s", "t", "z", "aa", "ab", "am", "an",
             "aw", "ax", "az", "ba", "bh"};
         String[] romans = {"i", "ii", "iii", "iv", "v", "vi", "viii", "ix", "x", "xi", "xiv", "xix", "xx", "xxvi", "xxvii",
             "xxviii", "xxxix", "xl", "xlix", "l", "lii", "liii", "lx"};
         for (int i = 0; i < values.length; i++) {
-            x.setStart(0, values[i]);
-            dueInAllSchemes(x, 0, values[i], letters[i], romans[i]);
+            dueInAllSchemes(0, values[i], letters[i], romans[i]);
         }
-        dueInAllSchemes(x, 18, 78, "bz", "lxxviii");
-        dueInAllSchemes(x, 19, 79, "ca", "lxxix");
-        dueInAllSchemes(x, 28, 88, "cj", "lxxxviii");
-        dueInAllSchemes(x, 29, 89, "ck", "lxxxix");
+        dueInAllSchemes(18, 78, "bz", "lxxviii");
+        dueInAllSchemes(19, 79, "ca", "lxxix");
+        dueInAllSchemes(28, 88, "cj", "lxxxviii");
+        dueInAllSchemes(29, 89, "ck", "lxxxix");
     }
 
-    private static void dueInAllSchemes(OutlineEditor x, int h, int value, String letters, String roman) {
+    /** In a new object each time, as one is used for 512 calls alone. */
+    private static void dueInAllSchemes(int h, int value, String letters, String roman) {
+        OutlineEditor x = new OutlineEditor();
+        for (int i = 0; i <= h; i++) {
+            x.add(i, 1, 0);
+        }
+        x.setStart(0, value - h);
         String[] want = {Integer.toString(value), letters, letters.toUpperCase(), roman, roman.toUpperCase(), ""};
         due("value", x.heading(h, 6), value);
         for (int scheme = 0; scheme <= 5; scheme++) {

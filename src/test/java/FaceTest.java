@@ -30,6 +30,7 @@ public final class FaceTest {
     public static void main(String[] args) throws Exception {
         members();
         nestedClasses();
+        sizes();
         source();
         System.out.println(wrong == 0 ? "the face is as due" : wrong + " things are not as due");
         if (wrong != 0) {
@@ -89,8 +90,38 @@ public final class FaceTest {
         }
     }
 
+    /** Rule 11: parameters, fields beside constants, and classes. */
+    private static void sizes() {
+        Class<?>[] nested = OutlineEditor.class.getDeclaredClasses();
+        due(nested.length + 1 <= 12, "at most 12 classes");
+        for (int i = -1; i < nested.length; i++) {
+            Class<?> c = i < 0 ? OutlineEditor.class : nested[i];
+            int fields = 0;
+            for (Field f : c.getDeclaredFields()) {
+                fields += Modifier.isStatic(f.getModifiers()) ? 0 : 1;
+            }
+            due(fields <= 20, c + " has at most 20 fields: " + fields);
+            for (Method m : c.getDeclaredMethods()) {
+                due(m.getParameterCount() <= 7, m + " has at most 7 parameters");
+            }
+        }
+    }
+
+    /** Rule 11: a method goes from a line that opens it to the brace that stands as far in. */
+    private static void lengths(String text) {
+        Matcher method = Pattern.compile("(?m)^( {4}| {8})(?! )(?!.*\\bclass\\b)[^\n]*\\) \\{\n((?s).*?)^\\1\\}").matcher(text);
+        int found = 0;
+        while (method.find()) {
+            found++;
+            long lines = method.group().lines().count();
+            due(lines <= 60, "at most 60 lines: " + method.group().lines().findFirst().orElse("") + " has " + lines);
+        }
+        due(found > 60, "the methods are found: " + found);
+    }
+
     private static void source() throws IOException {
         String text = Files.readString(Path.of(SOURCE), StandardCharsets.UTF_8);
+        lengths(text);
         due(text.chars().allMatch(c -> c == '\n' || (c >= 32 && c < 127)), "plain signs alone");
         String code = text.replaceAll("(?s)/\\*.*?\\*/", " ").replaceAll("//[^\n]*", " ");
         for (String word : FORBIDDEN_WORDS) {
